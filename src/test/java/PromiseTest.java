@@ -832,6 +832,13 @@ public final class PromiseTest {
             used 1 3 -> 3
             findAnew 1 3 -> 4
             """);
+        SCRIPT.play("promise 24, asked often", list + """
+            lay 2 6 -> 8
+            lay 2 8 -> 9
+            lay 2 9 -> 10
+            give 0 5 10 10 -> 0
+            give 0 6 -1 -1 -> 1
+            """ + "used 0 2 -> 3\nlook 0 2 -> g\nfindAnew 0 2 -> 0\n".repeat(160));
         SCRIPT.play("promise 21, the variable at two places", list + """
             lay 2 5 -> 8
             lay 2 2 -> 9
