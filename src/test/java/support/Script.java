@@ -1,8 +1,11 @@
+import java.util.ArrayList;
+import java.util.List;
 import java.util.Map;
 
 /**
  * Plays a run of calls that is written down as text, a line each: the call, its arguments, an
  * arrow, and the answer that is due. An exception is told by the first letters of its name's words.
+ * Behind each refused call, all that can be asked is asked, for it may have changed nothing.
  */
 final class Script {
     private static final Map<String, String> EXCEPTIONS = Map.of(
@@ -12,26 +15,43 @@ final class Script {
 
     private int wrong = 0;
     private int played = 0;
+    private int refused = 0;
 
     /** Plays a run on a new program, and on a new model, so that the model is tested as well. */
     void play(String name, String run) {
         Guild program = new Program();
-        Guild model = new Model();
+        Model model = new Model();
+        List<String> accepted = new ArrayList<>();
+        Survey survey = null;
         for (String line : run.split("\n")) {
-            if (!line.isBlank() && !line.startsWith("#")) {
-                step(name, program, model, line);
+            if (line.isBlank() || line.startsWith("#")) {
+                continue;
+            }
+            String call = line.split("->")[0];
+            if (step(name, program, model, line)) {
+                accepted.add(call);
+                survey = null;
+            } else {
+                survey = survey == null ? new Survey(accepted, model) : survey;
+                refused++;
+                for (String change : survey.changes(call)) {
+                    compare(name + ", behind " + call.trim(), change, "changed", "unchanged");
+                }
             }
         }
     }
 
-    private void step(String name, Guild program, Guild model, String line) {
+    /** Plays one line and answers whether the call is due to be accepted. */
+    private boolean step(String name, Guild program, Guild model, String line) {
         String[] halves = line.split("->");
         if (halves.length != 2) {
             throw new Error(name + ": no answer in: " + line);
         }
-        String due = EXCEPTIONS.getOrDefault(halves[1].trim(), halves[1].trim());
+        String told = halves[1].trim();
+        String due = EXCEPTIONS.getOrDefault(told, told);
         compare(name, line, ask(program, halves[0]), due);
         compare(name + ", model", line, ask(model, halves[0]), due);
+        return !EXCEPTIONS.containsKey(told);
     }
 
     private void compare(String name, String line, String got, String due) {
@@ -64,7 +84,7 @@ final class Script {
     }
 
     void close(String name) {
-        System.out.println(name + ": " + played + " answers, " + wrong + " wrong");
+        System.out.println(name + ": " + played + " answers, " + refused + " refused calls, " + wrong + " wrong");
         if (wrong > 0 || played == 0) {
             System.exit(1);
         }
